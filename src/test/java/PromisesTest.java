@@ -19,6 +19,7 @@ public final class PromisesTest {
         weighBad();
         worth();
         worthOfWeights();
+        worthThatIsSmall();
         answer();
         answerToWeights();
         opening();
@@ -411,6 +412,30 @@ public final class PromisesTest {
         due("worth of a bid behind a bid", x.worth(0, 1),
             bits((0.0 + 3.0 / 23.0 * (0.0 + 7.0 / 9.0 * 0.0 + 2.0 / 9.0 * 0.0)
                 + 20.0 / 23.0 * 1.0) / 4.0));
+    }
+
+    private static void worthThatIsSmall() {
+        DiceCups x = new DiceCups();
+        for (int h = 0; h < 2; h++) {
+            only(x, 0, 0, h, -1, 3);
+            only(x, 2, 0, h, -1, 2);
+            only(x, 1, 1, h, 3, -1);
+            only(x, 1, 1, h, 2, -1);
+        }
+        x.weigh(0, 0, 1, -1, 3, 1);
+        x.weigh(0, 0, 1, -1, 2, 20);
+        // Two of 1 is bid by hand 1 in 1 of 21, and holds in 1 of 2.
+        due("worth of 1 in 21", x.worth(0, 1), bits(1.0 / 21.0 / 4.0));
+        x = made(1, 3, 2, false);
+        for (int h = 0; h < 2; h++) {
+            only(x, 0, 0, h, -1, 7);
+        }
+        due("worth of what holds in 1 of 16", x.worth(0, 1), bits(0.0625));
+        only(x, 0, 0, 1, -1, 6);
+        for (int h = 0; h < 4; h++) {
+            only(x, 1, 1, h, 6, -1);
+        }
+        due("worth of what never holds", x.worth(0, 1), 0L);
     }
 
     private static void answer() {
