@@ -3,11 +3,17 @@ final class Checks {
     private static final int MOST_SHOWN = 40;
 
     private final String name;
+    private String test = "";
     private int made;
     private int wrong;
 
     Checks(String name) {
         this.name = name;
+    }
+
+    /** From here on, wrong answers are printed with this test's name. */
+    void begin(String newTest) {
+        test = " " + newTest;
     }
 
     void due(String call, long got, long want) {
@@ -17,11 +23,22 @@ final class Checks {
         }
     }
 
+    void rowDue(String call, int[] got, int... want) {
+        due(call + " length", got.length, want.length);
+        for (int i = 0; i < got.length && i < want.length; i++) {
+            due(call + " [" + i + "]", got[i], want[i]);
+        }
+    }
+
     void sure(String what, boolean holds) {
         made++;
         if (!holds) {
             note(what + " does not hold");
         }
+    }
+
+    int made() {
+        return made;
     }
 
     boolean anyWrong() {
@@ -39,7 +56,7 @@ final class Checks {
     private void note(String text) {
         wrong++;
         if (wrong <= MOST_SHOWN) {
-            System.out.println(name + ": " + text);
+            System.out.println(name + test + ": " + text);
         }
     }
 }

@@ -110,6 +110,9 @@ public final class FaceTest {
             for (Method method : one.getDeclaredMethods()) {
                 CHECKS.sure(told(method) + " takes seven at most",
                     method.getParameterCount() <= 7);
+                String name = " " + method.getName() + "(";
+                CHECKS.sure(told(method) + " has a name of its own",
+                    FACE.stream().noneMatch(called -> called.contains(name)));
             }
         }
     }

@@ -1,7 +1,7 @@
 /** For each promise of the document: ordinary calls, its edges and wrong calls, worked by hand. */
 public final class PromisesTest {
-    private static final int LOW = Integer.MIN_VALUE;
-    private static final int HIGH = Integer.MAX_VALUE;
+    private static final int LOW = Help.LOW;
+    private static final int HIGH = Help.HIGH;
     private static final Checks CHECKS = new Checks("PromisesTest");
 
     public static void main(String[] args) {
@@ -39,47 +39,13 @@ public final class PromisesTest {
         CHECKS.due(call, got, want);
     }
 
-    private static long bits(double x) {
-        return Double.doubleToRawLongBits(x);
-    }
-
-    private static DiceCups made(int d0, int d1, int faces, boolean wild) {
-        DiceCups x = new DiceCups();
-        due("cups", x.cups(d0, d1, faces, wild), (d0 + d1) * faces);
-        return x;
-    }
-
     private static void rowDue(String call, int[] got, int... want) {
-        due(call + " length", got.length, want.length);
-        for (int i = 0; i < got.length && i < want.length; i++) {
-            due(call + " [" + i + "]", got[i], want[i]);
-        }
-    }
-
-    private static int[] counts(DiceCups x) {
-        int[] all = new int[7];
-        for (int what = 0; what < all.length; what++) {
-            all[what] = x.count(what);
-        }
-        return all;
-    }
-
-    private static int[] abouts(DiceCups x) {
-        return new int[] {x.about(0), x.about(1), x.about(2), x.about(3)};
-    }
-
-    /** Has a hand make one move alone behind a last bid. */
-    private static void only(DiceCups x, int plan, int player, int h, int last, int move) {
-        for (int m = last == -1 ? 0 : -1; m < x.count(4); m++) {
-            if (m == -1 || m > last) {
-                x.weigh(plan, player, h, last, m, m == move ? 7 : 0);
-            }
-        }
+        CHECKS.rowDue(call, got, want);
     }
 
     private static void aNewObject() {
         DiceCups x = new DiceCups();
-        rowDue("counts when new", counts(x), 1, 1, 2, 0, 4, 0, 0);
+        rowDue("counts when new", Help.counts(x), 1, 1, 2, 0, 4, 0, 0);
         due("new about(0)", x.about(0), -3);
         due("new held(0)", x.held(0), -3);
         due("new move(0)", x.move(0), -3);
@@ -98,10 +64,10 @@ public final class PromisesTest {
 
     private static void cups() {
         int[] numbers = {LOW, -1, 0, 1, 2, 3, 4, 5, 1 << 30, HIGH};
-        DiceCups x = new DiceCups();
         int allowed = 0;
         for (int d0 : numbers) {
             for (int d1 : numbers) {
+                DiceCups x = new DiceCups();
                 for (int faces : numbers) {
                     boolean fine = mayBeCups(d0, d1, faces);
                     allowed += fine ? 1 : 0;
@@ -111,10 +77,11 @@ public final class PromisesTest {
             }
         }
         due("how many cups may be", allowed, 8);
+        DiceCups x = new DiceCups();
         due("cups(1, 3, 2)", x.cups(1, 3, 2, true), 8);
-        rowDue("counts", counts(x), 1, 3, 2, 1, 8, 0, 0);
+        rowDue("counts", Help.counts(x), 1, 3, 2, 1, 8, 0, 0);
         due("cups(1, 1, 3)", x.cups(1, 1, 3, false), 6);
-        rowDue("counts", counts(x), 1, 1, 3, 0, 6, 0, 0);
+        rowDue("counts", Help.counts(x), 1, 1, 3, 0, 6, 0, 0);
     }
 
     private static void cupsForget() {
@@ -146,7 +113,7 @@ public final class PromisesTest {
         int[][] want = {{1, 1, 2, 2, 2}, {1, 1, 3, 3, 3}, {1, 1, 4, 4, 4}, {1, 2, 2, 2, 3},
             {2, 1, 2, 3, 2}, {2, 2, 2, 3, 3}, {1, 3, 2, 2, 4}, {3, 1, 2, 4, 2}};
         for (int[] row : want) {
-            DiceCups x = made(row[0], row[1], row[2], false);
+            DiceCups x = Help.made(row[0], row[1], row[2], false);
             due("hands(0)", x.hands(0), row[3]);
             due("hands(1)", x.hands(1), row[4]);
             due("hands(2)", x.hands(2), -2);
@@ -174,15 +141,15 @@ public final class PromisesTest {
         int[][] one = {{1, 0}, {0, 1}};
         int[][] two = {{2, 0}, {1, 1}, {0, 2}};
         int[][] three = {{3, 0}, {2, 1}, {1, 2}, {0, 3}};
-        DiceCups x = made(1, 3, 2, false);
+        DiceCups x = Help.made(1, 3, 2, false);
         handRows(x, 0, one);
         handRows(x, 1, three);
-        x = made(3, 1, 2, true);
+        x = Help.made(3, 1, 2, true);
         handRows(x, 0, three);
         handRows(x, 1, one);
-        handRows(made(2, 2, 2, true), 1, two);
-        handRows(made(1, 1, 3, false), 0, new int[][] {{1, 0, 0}, {0, 1, 0}, {0, 0, 1}});
-        handRows(made(1, 1, 4, false), 1,
+        handRows(Help.made(2, 2, 2, true), 1, two);
+        handRows(Help.made(1, 1, 3, false), 0, new int[][] {{1, 0, 0}, {0, 1, 0}, {0, 0, 1}});
+        handRows(Help.made(1, 1, 4, false), 1,
             new int[][] {{1, 0, 0, 0}, {0, 1, 0, 0}, {0, 0, 1, 0}, {0, 0, 0, 1}});
         due("hand of player 2", x.hand(2, 0, 0), -100);
         due("hand of player -1", x.hand(-1, 0, 0), -100);
@@ -198,11 +165,11 @@ public final class PromisesTest {
     }
 
     private static void throwsOfHands() {
-        DiceCups x = made(1, 3, 2, false);
+        DiceCups x = Help.made(1, 3, 2, false);
         throwRow(x, 0, 1, 1);
         throwRow(x, 1, 1, 3, 3, 1);
-        throwRow(made(2, 1, 2, false), 0, 1, 2, 1);
-        throwRow(made(1, 1, 4, false), 1, 1, 1, 1, 1);
+        throwRow(Help.made(2, 1, 2, false), 0, 1, 2, 1);
+        throwRow(Help.made(1, 1, 4, false), 1, 1, 1, 1, 1);
         due("throwsOf(2, 0)", x.throwsOf(2, 0), -2);
         due("throwsOf(-1, 0)", x.throwsOf(-1, 0), -2);
     }
@@ -216,18 +183,18 @@ public final class PromisesTest {
     }
 
     private static void holds() {
-        DiceCups x = made(2, 2, 2, false);
+        DiceCups x = Help.made(2, 2, 2, false);
         // Hands 0 1 and 1 1: a 0, three of 1.
         holdsRow(x, 1, 2, 1, 1, 0, 1, 0, 1, 0, 0);
         holdsRow(x, 2, 1, 1, 1, 0, 1, 0, 1, 0, 0);
         holdsRow(x, 0, 0, 1, 0, 1, 0, 1, 0, 1, 0);
-        x = made(2, 2, 2, true);
+        x = Help.made(2, 2, 2, true);
         holdsRow(x, 1, 2, 1, 1, 0, 1, 0, 1, 0, 1);
         holdsRow(x, 0, 0, 1, 1, 1, 1, 1, 1, 1, 1);
-        x = made(1, 1, 3, true);
+        x = Help.made(1, 1, 3, true);
         holdsRow(x, 0, 2, 1, 1, 1, 0, 0, 1);
         holdsRow(x, 1, 2, 0, 1, 1, 0, 0, 0);
-        x = made(1, 3, 2, false);
+        x = Help.made(1, 3, 2, false);
         holdsRow(x, 1, 1, 1, 1, 1, 1, 0, 0, 0, 0);
         due("hand 2 of 1 die", x.holds(2, 0, 0), -2);
         due("hand 4 of 3 dice", x.holds(0, 4, 0), -2);
@@ -245,7 +212,7 @@ public final class PromisesTest {
     }
 
     private static void chance() {
-        DiceCups x = made(1, 3, 2, false);
+        DiceCups x = Help.made(1, 3, 2, false);
         chanceDue(x, 0, 0, 0, 1, 1);
         chanceDue(x, 0, 0, 1, 7, 8);
         chanceDue(x, 0, 0, 2, 7, 8);
@@ -256,10 +223,10 @@ public final class PromisesTest {
         chanceDue(x, 1, 1, 3, 1, 2);
         chanceDue(x, 1, 1, 2, 1, 1);
         chanceDue(x, 1, 1, 5, 0, 1);
-        x = made(2, 2, 2, false);
+        x = Help.made(2, 2, 2, false);
         chanceDue(x, 0, 1, 3, 3, 4);
         chanceDue(x, 0, 1, 5, 1, 4);
-        x = made(1, 1, 4, true);
+        x = Help.made(1, 1, 4, true);
         chanceDue(x, 0, 1, 2, 1, 2);
         chanceDue(x, 0, 1, 0, 1, 4);
         chanceDue(x, 1, 0, 6, 1, 2);
@@ -274,7 +241,7 @@ public final class PromisesTest {
     }
 
     private static void surest() {
-        DiceCups x = made(1, 3, 2, false);
+        DiceCups x = Help.made(1, 3, 2, false);
         // With a 0, of bids 0 to 7: 8, 7, 7, 4, 4, 1, 1, 0 of 8 throws.
         due("surest 1/8", x.surest(0, 0, 1, 8), 6);
         due("surest 1/100", x.surest(0, 0, 1, 100), 6);
@@ -298,7 +265,7 @@ public final class PromisesTest {
     }
 
     private static void weigh() {
-        DiceCups x = made(1, 3, 2, false);
+        DiceCups x = Help.made(1, 3, 2, false);
         int w = 0;
         for (int round = 0; round < 2; round++) {
             for (int plan = 0; plan < 4; plan++) {
@@ -319,20 +286,20 @@ public final class PromisesTest {
     }
 
     private static void weighIsKeptByDice() {
-        DiceCups x = made(1, 1, 4, false);
+        DiceCups x = Help.made(1, 1, 4, false);
         x.weigh(1, 0, 3, 2, 5, 11);
         due("the other player with as many dice", x.weigh(1, 1, 3, 2, 5, 12), 11);
         due("and back", x.weigh(1, 0, 3, 2, 5, 1), 12);
         due("another plan", x.weigh(2, 0, 3, 2, 5, 1), 1);
         due("another hand", x.weigh(1, 0, 2, 2, 5, 1), 1);
-        x = made(2, 1, 2, false);
+        x = Help.made(2, 1, 2, false);
         x.weigh(1, 0, 1, 2, 5, 11);
         due("the other player with fewer dice", x.weigh(1, 1, 1, 2, 5, 12), 1);
         due("the weight of 2 dice stays", x.weigh(1, 0, 1, 2, 5, 12), 11);
     }
 
     private static void weighBad() {
-        DiceCups x = made(2, 1, 2, false);
+        DiceCups x = Help.made(2, 1, 2, false);
         due("plan -1", x.weigh(-1, 0, 0, -1, 0, 2), -2);
         due("plan 4", x.weigh(4, 0, 0, -1, 0, 2), -2);
         due("player -1", x.weigh(0, -1, 0, -1, 0, 2), -2);
@@ -361,31 +328,31 @@ public final class PromisesTest {
 
     private static void worth() {
         DiceCups x = new DiceCups();
-        due("worth of like weights", x.worth(0, 1), bits(0.5));
+        due("worth of like weights", x.worth(0, 1), Help.bits(0.5));
         for (int h = 0; h < 2; h++) {
-            only(x, 0, 0, h, -1, 9);
-            only(x, 1, 1, h, 0, 9);
+            Help.only(x, 0, 0, h, -1, 9);
+            Help.only(x, 1, 1, h, 0, 9);
         }
         // No weight is left, so bid 0 comes first and then CALL; it holds in 3 of 4 throws.
-        due("worth of no weights", x.worth(0, 1), bits(0.75));
-        only(x, 1, 1, 0, 0, 1);
-        only(x, 1, 1, 1, 0, 1);
-        only(x, 0, 0, 0, 1, -1);
-        only(x, 0, 0, 1, 1, -1);
+        due("worth of no weights", x.worth(0, 1), Help.bits(0.75));
+        Help.only(x, 1, 1, 0, 0, 1);
+        Help.only(x, 1, 1, 1, 0, 1);
+        Help.only(x, 0, 0, 0, 1, -1);
+        Help.only(x, 0, 0, 1, 1, -1);
         // Player 1 goes on to bid 1, which fails in 1 of 4.
-        due("worth where player 0 calls", x.worth(0, 1), bits(0.25));
-        only(x, 0, 0, 0, -1, 3);
-        only(x, 0, 0, 1, -1, 3);
-        due("worth behind the greatest bid", x.worth(0, 2), bits(0.25));
-        x = made(1, 3, 2, false);
+        due("worth where player 0 calls", x.worth(0, 1), Help.bits(0.25));
+        Help.only(x, 0, 0, 0, -1, 3);
+        Help.only(x, 0, 0, 1, -1, 3);
+        due("worth behind the greatest bid", x.worth(0, 2), Help.bits(0.25));
+        x = Help.made(1, 3, 2, false);
         for (int h = 0; h < 2; h++) {
-            only(x, 2, 0, h, -1, 5);
+            Help.only(x, 2, 0, h, -1, 5);
         }
         for (int h = 0; h < 4; h++) {
-            only(x, 3, 1, h, 5, -1);
+            Help.only(x, 3, 1, h, 5, -1);
         }
         // Three of 1 among four dice: 5 of 16 throws.
-        due("worth by throws", x.worth(2, 3), bits(5.0 / 16.0));
+        due("worth by throws", x.worth(2, 3), Help.bits(5.0 / 16.0));
         due("worth(-1, 0)", x.worth(-1, 0), -1);
         due("worth(4, 0)", x.worth(4, 0), -1);
         due("worth(0, -1)", x.worth(0, -1), -1);
@@ -396,44 +363,44 @@ public final class PromisesTest {
     private static void worthOfWeights() {
         DiceCups x = new DiceCups();
         for (int h = 0; h < 2; h++) {
-            only(x, 0, 0, h, -1, 3);
-            only(x, 1, 1, h, 3, -1);
+            Help.only(x, 0, 0, h, -1, 3);
+            Help.only(x, 1, 1, h, 3, -1);
         }
         x.weigh(0, 0, 1, -1, 2, 3);
         x.weigh(0, 0, 1, -1, 3, 20);
-        only(x, 1, 1, 0, 2, -1);
-        only(x, 1, 1, 1, 2, -1);
+        Help.only(x, 1, 1, 0, 2, -1);
+        Help.only(x, 1, 1, 1, 2, -1);
         // Hand 0 bids two of 1, which fails; hand 1 bids it by 20 in 23, else two of 0.
         double e = 0.0 + 3.0 / 23.0 * 0.0;
         double want = (e + 20.0 / 23.0 * 1.0) / 4.0;
-        due("worth of 20 in 23", x.worth(0, 1), bits(want));
+        due("worth of 20 in 23", x.worth(0, 1), Help.bits(want));
         x.weigh(1, 1, 1, 2, 3, 2);
         x.weigh(0, 0, 0, 3, -1, 0);
         due("worth of a bid behind a bid", x.worth(0, 1),
-            bits((0.0 + 3.0 / 23.0 * (0.0 + 7.0 / 9.0 * 0.0 + 2.0 / 9.0 * 0.0)
+            Help.bits((0.0 + 3.0 / 23.0 * (0.0 + 7.0 / 9.0 * 0.0 + 2.0 / 9.0 * 0.0)
                 + 20.0 / 23.0 * 1.0) / 4.0));
     }
 
     private static void worthThatIsSmall() {
         DiceCups x = new DiceCups();
         for (int h = 0; h < 2; h++) {
-            only(x, 0, 0, h, -1, 3);
-            only(x, 2, 0, h, -1, 2);
-            only(x, 1, 1, h, 3, -1);
-            only(x, 1, 1, h, 2, -1);
+            Help.only(x, 0, 0, h, -1, 3);
+            Help.only(x, 2, 0, h, -1, 2);
+            Help.only(x, 1, 1, h, 3, -1);
+            Help.only(x, 1, 1, h, 2, -1);
         }
         x.weigh(0, 0, 1, -1, 3, 1);
         x.weigh(0, 0, 1, -1, 2, 20);
         // Two of 1 is bid by hand 1 in 1 of 21, and holds in 1 of 2.
-        due("worth of 1 in 21", x.worth(0, 1), bits(1.0 / 21.0 / 4.0));
-        x = made(1, 3, 2, false);
+        due("worth of 1 in 21", x.worth(0, 1), Help.bits(1.0 / 21.0 / 4.0));
+        x = Help.made(1, 3, 2, false);
         for (int h = 0; h < 2; h++) {
-            only(x, 0, 0, h, -1, 7);
+            Help.only(x, 0, 0, h, -1, 7);
         }
-        due("worth of what holds in 1 of 16", x.worth(0, 1), bits(0.0625));
-        only(x, 0, 0, 1, -1, 6);
+        due("worth of what holds in 1 of 16", x.worth(0, 1), Help.bits(0.0625));
+        Help.only(x, 0, 0, 1, -1, 6);
         for (int h = 0; h < 4; h++) {
-            only(x, 1, 1, h, 6, -1);
+            Help.only(x, 1, 1, h, 6, -1);
         }
         due("worth of what never holds", x.worth(0, 1), 0L);
     }
@@ -442,40 +409,40 @@ public final class PromisesTest {
         DiceCups x = new DiceCups();
         for (int h = 0; h < 2; h++) {
             for (int last = 0; last < 4; last++) {
-                only(x, 1, 1, h, last, -1);
+                Help.only(x, 1, 1, h, last, -1);
             }
-            only(x, 2, 0, h, -1, 0);
+            Help.only(x, 2, 0, h, -1, 0);
         }
         // Who is always called bids what the own die makes sure.
-        due("answer to CALL", x.answer(0, 1), bits(1.0));
-        only(x, 2, 0, 0, 1, -1);
-        only(x, 2, 0, 1, 1, -1);
-        only(x, 2, 0, 0, 2, -1);
-        only(x, 2, 0, 1, 2, -1);
+        due("answer to CALL", x.answer(0, 1), Help.bits(1.0));
+        Help.only(x, 2, 0, 0, 1, -1);
+        Help.only(x, 2, 0, 1, 1, -1);
+        Help.only(x, 2, 0, 0, 2, -1);
+        Help.only(x, 2, 0, 1, 2, -1);
         // Behind bid 0: hand 0 wins 1 of 2 by bid 1, hand 1 wins each time by bid 1.
-        due("answer to bid 0", x.answer(1, 2), bits(0.75));
+        due("answer to bid 0", x.answer(1, 2), Help.bits(0.75));
         due("answer(-1, 0)", x.answer(-1, 0), -1);
         due("answer(2, 0)", x.answer(2, 0), -1);
         due("answer(0, -1)", x.answer(0, -1), -1);
         due("answer(1, 4)", x.answer(1, 4), -1);
         due("answer(HIGH, HIGH)", x.answer(HIGH, HIGH), -1);
-        x = made(1, 3, 2, true);
+        x = Help.made(1, 3, 2, true);
         for (int h = 0; h < 2; h++) {
-            only(x, 0, 0, h, -1, 7);
+            Help.only(x, 0, 0, h, -1, 7);
         }
         // Four of 1, nothing but CALL behind: it holds by wild 0, so CALL never wins.
-        due("answer to what always holds", x.answer(1, 0), bits(0.0));
+        due("answer to what always holds", x.answer(1, 0), Help.bits(0.0));
         x.cups(1, 3, 2, false);
         for (int h = 0; h < 2; h++) {
-            only(x, 0, 0, h, -1, 7);
+            Help.only(x, 0, 0, h, -1, 7);
         }
-        due("answer to what holds in 1 of 16", x.answer(1, 0), bits(15.0 / 16.0));
+        due("answer to what holds in 1 of 16", x.answer(1, 0), Help.bits(15.0 / 16.0));
     }
 
     private static void answerToWeights() {
         DiceCups x = new DiceCups();
         for (int h = 0; h < 2; h++) {
-            only(x, 0, 0, h, -1, 3);
+            Help.only(x, 0, 0, h, -1, 3);
         }
         x.weigh(0, 0, 1, -1, 2, 3);
         x.weigh(0, 0, 1, -1, 3, 20);
@@ -484,22 +451,22 @@ public final class PromisesTest {
         double bid3 = 1.0 * (20.0 / 23.0);
         double v0 = 0.0 + bid2 + (0.0 + 1.0 + bid3);
         double v1 = 0.0 + bid2 + (0.0 + 1.0);
-        due("answer to weights", x.answer(1, 0), bits((0.0 + 1.0 * v0 + 1.0 * v1) / 4.0));
+        due("answer to weights", x.answer(1, 0), Help.bits((0.0 + 1.0 * v0 + 1.0 * v1) / 4.0));
     }
 
     private static void opening() {
         DiceCups x = new DiceCups();
         for (int h = 0; h < 2; h++) {
             for (int last = 0; last < 4; last++) {
-                only(x, 1, 1, h, last, -1);
+                Help.only(x, 1, 1, h, last, -1);
             }
         }
         due("opening with a 0", x.opening(1, 0), 0);
         due("opening with a 1", x.opening(1, 1), 1);
-        x = made(2, 2, 2, true);
+        x = Help.made(2, 2, 2, true);
         for (int h = 0; h < 3; h++) {
             for (int last = 0; last < 8; last++) {
-                only(x, 3, 1, h, last, -1);
+                Help.only(x, 3, 1, h, last, -1);
             }
         }
         due("the first of like ones", x.opening(3, 0), 0);
@@ -509,9 +476,9 @@ public final class PromisesTest {
         due("opening(4, 0)", x.opening(4, 0), -100);
         due("opening hand -1", x.opening(0, -1), -100);
         due("opening hand 3", x.opening(0, 3), -100);
-        x = made(1, 3, 2, true);
+        x = Help.made(1, 3, 2, true);
         due("opening hand 2 of 1 die", x.opening(0, 2), -100);
-        x = made(3, 1, 2, true);
+        x = Help.made(3, 1, 2, true);
         CHECKS.sure("opening hand 3 of 3 dice", x.opening(0, 3) >= 0);
         due("opening hand HIGH", x.opening(0, HIGH), -100);
     }
@@ -519,18 +486,18 @@ public final class PromisesTest {
     private static void reply() {
         DiceCups x = new DiceCups();
         for (int h = 0; h < 2; h++) {
-            only(x, 2, 0, h, -1, 0);
-            only(x, 2, 0, h, 1, -1);
-            only(x, 2, 0, h, 2, -1);
+            Help.only(x, 2, 0, h, -1, 0);
+            Help.only(x, 2, 0, h, 1, -1);
+            Help.only(x, 2, 0, h, 2, -1);
         }
         due("reply with a 0", x.reply(2, 0, 0), 1);
         due("reply with a 1", x.reply(2, 1, 0), 1);
         due("reply to what is never bid", x.reply(2, 0, 1), -1);
         due("reply to the greatest that is never bid", x.reply(2, 1, 3), -1);
-        only(x, 2, 0, 0, -1, 1);
+        Help.only(x, 2, 0, 0, -1, 1);
         due("reply to a bid of hand 1 alone", x.reply(2, 0, 0), 1);
-        only(x, 2, 0, 0, -1, 3);
-        only(x, 2, 0, 1, -1, 3);
+        Help.only(x, 2, 0, 0, -1, 3);
+        Help.only(x, 2, 0, 1, -1, 3);
         due("reply to the greatest", x.reply(2, 0, 3), -1);
         due("reply CALL of like ones", x.reply(2, 1, 3), -1);
         due("reply bid -1", x.reply(2, 0, -1), -100);
@@ -540,34 +507,23 @@ public final class PromisesTest {
         due("reply hand 2", x.reply(2, 2, 0), -100);
         due("reply plan -1", x.reply(-1, 0, 0), -100);
         due("reply plan 4", x.reply(4, 0, 0), -100);
-        x = made(1, 3, 2, false);
+        x = Help.made(1, 3, 2, false);
         due("reply hand 3 of 3 dice", x.reply(0, 3, 0) >= -1 ? 1 : 0, 1);
         due("reply hand 4 of 3 dice", x.reply(0, 4, 0), -100);
-        x = made(3, 1, 2, false);
+        x = Help.made(3, 1, 2, false);
         due("reply hand 2 of 1 die", x.reply(0, 2, 0), -100);
-    }
-
-    /** The pips that a seed draws, told with long numbers. */
-    private static int[] drawn(int seed, int dice, int faces) {
-        int[] pips = new int[dice];
-        long x = seed;
-        for (int i = 0; i < dice; i++) {
-            x = (x * 1103515245L + 12345L) & 0x7fffffffL;
-            pips[i] = (int) ((x / 65536L) % faces);
-        }
-        return pips;
     }
 
     private static void round() {
         int[] seeds = {0, 1, 2, 7, 203, 65535, 65536, 123456789, HIGH - 1, HIGH};
-        DiceCups one = made(1, 1, 4, false);
-        DiceCups more = made(1, 3, 2, true);
+        DiceCups one = Help.made(1, 1, 4, false);
+        DiceCups more = Help.made(1, 3, 2, true);
         for (int seed : seeds) {
-            int[] pips = drawn(seed, 2, 4);
+            int[] pips = Help.drawn(seed, 2, 4);
             due("round(" + seed + ")", one.round(seed), pips[0]);
             due("held(0)", one.held(0), pips[0]);
             due("held(1)", one.held(1), pips[1]);
-            pips = drawn(seed, 4, 2);
+            pips = Help.drawn(seed, 4, 2);
             due("round(" + seed + ") of 1 and 3", more.round(seed), pips[0]);
             // A hand of dice with two pips is numbered by how many of them have 1.
             due("held(1) of 3", more.held(1), pips[1] + pips[2] + pips[3]);
@@ -576,9 +532,9 @@ public final class PromisesTest {
         more.move(3);
         due("round(-1)", more.round(-1), -2);
         due("round(LOW)", more.round(LOW), -2);
-        rowDue("refused rounds leave it", abouts(more), 1, 3, 1, -1);
+        rowDue("refused rounds leave it", Help.abouts(more), 1, 3, 1, -1);
         more.round(5);
-        rowDue("a round that was goes", abouts(more), 0, -1, 0, -1);
+        rowDue("a round that was goes", Help.abouts(more), 0, -1, 0, -1);
         due("nobody won it", more.count(5) + more.count(6), 0);
     }
 
@@ -622,7 +578,7 @@ public final class PromisesTest {
         for (int bid = 0; bid < 8; bid++) {
             due("every bid", x.move(bid), 0);
         }
-        rowDue("behind them all", abouts(x), 0, 7, 8, -1);
+        rowDue("behind them all", Help.abouts(x), 0, 7, 8, -1);
     }
 
     private static void movesRefused() {
@@ -636,11 +592,11 @@ public final class PromisesTest {
         due("bid 4", x.move(4), -2);
         due("bid HIGH", x.move(HIGH), -2);
         due("bid LOW", x.move(LOW), -2);
-        rowDue("nothing was done", abouts(x), 0, -1, 0, -1);
+        rowDue("nothing was done", Help.abouts(x), 0, -1, 0, -1);
         x.move(2);
         due("a bid like the last", x.move(2), -3);
         due("a bid below the last", x.move(0), -3);
-        rowDue("one bid was made", abouts(x), 1, 2, 1, -1);
+        rowDue("one bid was made", Help.abouts(x), 1, 2, 1, -1);
         x.move(-1);
         due("a bid when it is over", x.move(3), -3);
         due("CALL when it is over", x.move(-1), -3);
@@ -655,74 +611,38 @@ public final class PromisesTest {
         due("about(4) of none", x.about(4), -2);
         due("about(-1) of none", x.about(-1), -2);
         x.round(7);
-        rowDue("at first", abouts(x), 0, -1, 0, -1);
+        rowDue("at first", Help.abouts(x), 0, -1, 0, -1);
         x.move(1);
-        rowDue("behind a bid", abouts(x), 1, 1, 1, -1);
+        rowDue("behind a bid", Help.abouts(x), 1, 1, 1, -1);
         x.move(3);
-        rowDue("behind two", abouts(x), 0, 3, 2, -1);
+        rowDue("behind two", Help.abouts(x), 0, 3, 2, -1);
         x.move(-1);
-        rowDue("when it is over", abouts(x), -1, 3, 2, 0);
+        rowDue("when it is over", Help.abouts(x), -1, 3, 2, 0);
         x.round(7);
         x.move(3);
         x.move(-1);
-        rowDue("when 1 won", abouts(x), -1, 3, 1, 1);
+        rowDue("when 1 won", Help.abouts(x), -1, 3, 1, 1);
         due("about(4)", x.about(4), -2);
         due("about(HIGH)", x.about(HIGH), -2);
         due("about(LOW)", x.about(LOW), -2);
     }
 
     private static void count() {
-        DiceCups x = made(2, 1, 2, true);
-        rowDue("counts", counts(x), 2, 1, 2, 1, 6, 0, 0);
+        DiceCups x = Help.made(2, 1, 2, true);
+        rowDue("counts", Help.counts(x), 2, 1, 2, 1, 6, 0, 0);
         x.cups(1, 1, 4, false);
-        rowDue("counts of four pips", counts(x), 1, 1, 4, 0, 8, 0, 0);
+        rowDue("counts of four pips", Help.counts(x), 1, 1, 4, 0, 8, 0, 0);
         x.cups(1, 1, 2, false);
         for (int i = 0; i < 3; i++) {
             x.round(7);
             x.move(i == 0 ? 0 : 3);
             x.move(-1);
         }
-        rowDue("counts behind rounds", counts(x), 1, 1, 2, 0, 4, 1, 2);
+        rowDue("counts behind rounds", Help.counts(x), 1, 1, 2, 0, 4, 1, 2);
         due("count(7)", x.count(7), -2);
         due("count(-1)", x.count(-1), -2);
         due("count(HIGH)", x.count(HIGH), -2);
         due("count(LOW)", x.count(LOW), -2);
-    }
-
-    /** The digest by the document's words, with what the other calls answer. */
-    private static long digestByCalls(DiceCups x) {
-        long h = 191L;
-        for (int v : counts(x)) {
-            h = 31L * h + v;
-        }
-        for (int plan = 0; plan < 4; plan++) {
-            for (int player = 0; player < 2; player++) {
-                for (int hand = 0; hand < x.hands(player); hand++) {
-                    h = mixWeights(x, h, plan, player, hand);
-                }
-            }
-        }
-        if (x.about(0) == -3) {
-            return h;
-        }
-        for (int v : abouts(x)) {
-            h = 31L * h + v;
-        }
-        return 31L * (31L * h + x.held(0)) + x.held(1);
-    }
-
-    private static long mixWeights(DiceCups x, long start, int plan, int player, int hand) {
-        long h = start;
-        for (int last = -1; last < x.count(4); last++) {
-            for (int move = -1; move < x.count(4); move++) {
-                int w = x.weigh(plan, player, hand, last, move, 0);
-                if (w >= 0) {
-                    x.weigh(plan, player, hand, last, move, w);
-                    h = 31L * h + w;
-                }
-            }
-        }
-        return h;
     }
 
     private static void digest() {
@@ -738,23 +658,30 @@ public final class PromisesTest {
         due("digest of a new object", x.digest(), ones);
         int[][] all = {{1, 1, 2}, {1, 1, 3}, {1, 1, 4}, {1, 2, 2}, {2, 1, 2}, {2, 2, 2},
             {1, 3, 2}, {3, 1, 2}};
+        Model model = new Model();
         for (int[] cups : all) {
             x.cups(cups[0], cups[1], cups[2], cups[0] == 1);
-            due("digest of cups", x.digest(), digestByCalls(x));
+            model.cups(cups[0], cups[1], cups[2], cups[0] == 1);
+            due("digest of cups", x.digest(), model.digest());
             x.weigh(3, 1, 1, 4, -1, 17);
+            model.weigh(3, 1, 1, 4, -1, 17);
             x.weigh(0, 0, 0, -1, 2, 0);
-            due("digest of weights", x.digest(), digestByCalls(x));
+            model.weigh(0, 0, 0, -1, 2, 0);
+            due("digest of weights", x.digest(), model.digest());
             x.round(cups[2] * 1000 + cups[0]);
-            due("digest of a round", x.digest(), digestByCalls(x));
+            model.round(cups[2] * 1000 + cups[0]);
+            due("digest of a round", x.digest(), model.digest());
             x.move(3);
-            due("digest behind a bid", x.digest(), digestByCalls(x));
+            model.move(3);
+            due("digest behind a bid", x.digest(), model.digest());
             x.move(-1);
-            due("digest behind CALL", x.digest(), digestByCalls(x));
+            model.move(-1);
+            due("digest behind CALL", x.digest(), model.digest());
         }
     }
 
     private static void refusedCallsChangeNothing() {
-        DiceCups x = made(1, 2, 2, true);
+        DiceCups x = Help.made(1, 2, 2, true);
         x.weigh(1, 0, 1, 2, 3, 6);
         x.round(11);
         x.move(2);
